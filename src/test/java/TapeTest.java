@@ -31,7 +31,7 @@ public final class TapeTest {
         Check.due("things", foot.count(0), 2);
         foot.feed(Check.eight("thing cc", 0), 0, 0);
         Check.due("feed behind", foot.feed(0, 0, Check.eight(" ; scene", 0)), 16);
-        Check.due("feed behind that", foot.feed(Check.eight(" cc yes ", 0), Check.eight("under cc", 0), Check.eight("no;", 0)), 35);
+        Check.due("feed behind that", foot.feed(Check.eight(" cc yes ", 0), Check.eight("under cc", 0), Check.eight(" no;", 0)), 36);
         Check.due("film of three feeds", foot.film(), 0);
         Check.due("scenes", foot.count(1), 1);
     }
