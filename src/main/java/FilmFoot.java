@@ -869,7 +869,8 @@ public final class FilmFoot {
         }
 
         int thought(int watcher, int thing) {
-            return Row.get(thoughts, watcher * MOST_THINGS + thing);
+            int view = watcher * MOST_THINGS + thing;
+            return view >= 0 && view < thoughts.length ? thoughts[view] : NONE;
         }
 
         void think(int watcher, int thing, int is) {
@@ -1299,7 +1300,9 @@ public final class FilmFoot {
             if (fault != 0) {
                 return;
             }
-            ahead = blanksEnd();
+            while (ahead < length && (signAt(ahead) == 10 || signAt(ahead) == 32)) {
+                ahead++;
+            }
             place = ahead;
             word = null;
             char sign = signAt(ahead);
@@ -1314,14 +1317,6 @@ public final class FilmFoot {
                 value = sign;
                 ahead++;
             }
-        }
-
-        private int blanksEnd() {
-            int at = ahead;
-            while (at < length && (signAt(at) == 10 || signAt(at) == 32)) {
-                at++;
-            }
-            return at;
         }
 
         private void readWord() {
@@ -1495,7 +1490,8 @@ public final class FilmFoot {
             }
             lawTold = true;
             tape.step();
-            law.read(tape);
+            law.size = 0;
+            law.readAll(tape, 0);
             tape.needSign(';');
         }
 
@@ -1632,11 +1628,6 @@ public final class FilmFoot {
         /** No deeper than four values for each of the five levels of brackets, and one. */
         private final int[] values = new int[4 * (MOST_WITHIN + 1)];
 
-        void read(Tape tape) {
-            size = 0;
-            readAll(tape, 0);
-        }
-
         private void emit(int deed) {
             if (size < code.length) {
                 Row.set(code, size, deed);
@@ -1644,7 +1635,8 @@ public final class FilmFoot {
             }
         }
 
-        private void readAll(Tape tape, int within) {
+        /** An E that stands within so many of not and ( ). */
+        void readAll(Tape tape, int within) {
             readTest(tape, within);
             for (int tests = 0; tests < MOST_SIGNS && (tape.isWord(Word.AND) || tape.isWord(Word.OR)); tests++) {
                 int deed = tape.isWord(Word.AND) ? AND : OR;
