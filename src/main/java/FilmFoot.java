@@ -246,17 +246,21 @@ public final class FilmFoot {
         film.finish(trial);
         int stay = trial.in;
         int open = notShown();
-        for (int size = 0; size <= MOST_SCENES; size++) {
-            for (int set = 0; set < ALL_SETS; set++) {
-                if (Integer.bitCount(set) == size && (set & ~open) == 0) {
-                    finishWritten(set, claim(thing, yes));
-                    if (trial.thought(watcher, thing) == (yes ? 1 : 0) && (stay & ~trial.in) == 0) {
-                        return set;
-                    }
+        int fewest = NONE;
+        for (int set = 0; set < ALL_SETS; set++) {
+            if ((set & ~open) == 0 && isFewer(set, fewest)) {
+                finishWritten(set, claim(thing, yes));
+                if (trial.thought(watcher, thing) == (yes ? 1 : 0) && (stay & ~trial.in) == 0) {
+                    fewest = set;
                 }
             }
         }
-        return NONE;
+        return fewest;
+    }
+
+    /** Of equal ones the first one tried stays, which is the least. */
+    private static boolean isFewer(int set, int fewest) {
+        return fewest == NONE || Integer.bitCount(set) < Integer.bitCount(fewest);
     }
 
     private void finishWritten(int set, int claim) {
@@ -288,17 +292,16 @@ public final class FilmFoot {
             return NONE;
         }
         int open = cuttable();
-        for (int size = 0; size <= MOST_SCENES; size++) {
-            for (int set = 0; set < ALL_SETS; set++) {
-                if (Integer.bitCount(set) == size && (set & ~open) == 0) {
-                    finishCut(set);
-                    if (trial.isIn(watcher)) {
-                        return set;
-                    }
+        int fewest = NONE;
+        for (int set = 0; set < ALL_SETS; set++) {
+            if ((set & ~open) == 0 && isFewer(set, fewest)) {
+                finishCut(set);
+                if (trial.isIn(watcher)) {
+                    fewest = set;
                 }
             }
         }
-        return NONE;
+        return fewest;
     }
 
     public int takes(int watcher, int scene) {
@@ -327,19 +330,34 @@ public final class FilmFoot {
         }
         int scenes = 0;
         for (int scene = 0; scene < film.scenes; scene++) {
-            int claim = what == 0 ? film.saying(now, scene) : now.writing(scene);
-            if (thingOf(claim) == thing) {
+            if (thingOf(claimOf(scene, what)) == thing) {
                 scenes |= 1 << scene;
             }
         }
         return scenes;
     }
 
+    /** What a SCENE says (0) or writes (1) now. */
+    private int claimOf(int scene, int what) {
+        return what == 0 ? film.saying(now, scene) : now.writing(scene);
+    }
+
+    /** How a THING is said (0) or written (1) last, of all SCENES; NONE: it is not. */
+    private int last(int thing, int what) {
+        int last = NONE;
+        for (int scene = 0; scene < film.scenes; scene++) {
+            if (thingOf(claimOf(scene, what)) == thing) {
+                last = isOf(claimOf(scene, what));
+            }
+        }
+        return last;
+    }
+
     public int fooled(int thing) {
         if (!film.hasThing(thing)) {
             return NONE;
         }
-        int last = lastSaid(thing);
+        int last = last(thing, 0);
         if (last == NONE) {
             return 0;
         }
@@ -351,28 +369,6 @@ public final class FilmFoot {
             }
         }
         return fools;
-    }
-
-    private int lastSaid(int thing) {
-        int last = NONE;
-        for (int scene = 0; scene < film.scenes; scene++) {
-            int said = film.saying(now, scene);
-            if (thingOf(said) == thing) {
-                last = isOf(said);
-            }
-        }
-        return last;
-    }
-
-    private int lastWritten(int thing) {
-        int last = NONE;
-        for (int scene = 0; scene < film.scenes; scene++) {
-            int written = now.writing(scene);
-            if (thingOf(written) == thing) {
-                last = isOf(written);
-            }
-        }
-        return last;
     }
 
     public int sway() {
@@ -581,7 +577,7 @@ public final class FilmFoot {
     public int moves() {
         int things = 0;
         for (int thing = 0; thing < film.things; thing++) {
-            if (lastWritten(thing) != lastSaid(thing)) {
+            if (last(thing, 0) != last(thing, 1)) {
                 things |= 1 << thing;
             }
         }

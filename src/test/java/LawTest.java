@@ -67,6 +67,9 @@ public final class LawTest {
         law("0 - 256 * 256 * 256 * 128 < 0", 1);
         law("((((2)))) * ((((3))))", 6);
         law("1 + (2 * (1 + (0 + (1)) * 2) - 3)", 4);
+        String deep = "1 and 1 < 1 + 1 * ";
+        law(deep + "(" + deep + "(" + deep + "(" + deep + "(" + deep + "1))))", 1);
+        law(deep + "(" + deep + "(" + deep + "(" + deep + "(" + deep + "0))))", 0);
         StringBuilder ones = new StringBuilder("1");
         for (int more = 0; more < 420; more++) {
             ones.append(more < 415 ? "+0" : "+1");
