@@ -577,7 +577,7 @@ public final class FilmFoot {
     public int moves() {
         int things = 0;
         for (int thing = 0; thing < film.things; thing++) {
-            if (last(thing, 0) != last(thing, 1)) {
+            if (last(thing, 1) != last(thing, 0)) {
                 things |= 1 << thing;
             }
         }

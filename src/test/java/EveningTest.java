@@ -35,6 +35,13 @@ public final class EveningTest {
         fine("write 0 b yes ; write 7 a no ; cut 0 ; cut 7 ; talk v w ; talk w v ; again ; show ;", 8);
         fine("write 0007b yes;", 1);
         fine("again ; ".repeat(40), 40);
+        FilmFoot foot = Check.foot(FILM);
+        for (int lines = 1; lines <= 30; lines += 7) {
+            Check.due("a later evening", Check.evening(foot, "show ; ".repeat(lines)), 0);
+            Check.due("its lines", foot.count(9), lines);
+            Check.due("a fault amid another one", Check.evening(foot, "show ; ".repeat(20) + "thing"), 1 + 16 * 140);
+            Check.due("the lines stay", foot.count(9), lines);
+        }
     }
 
     private static void faults() {

@@ -42,6 +42,7 @@ public final class FilmTest {
         fine("thing a ; thing b ; thing c ; thing d ; thing e ; thing f ;");
         fine("thing a ; " + SCENE.repeat(8));
         fine("thing thingx ; thing thin ; thing things ;");
+        fine("thing z ; thing azaz ; thing zzzzzzzz ; watcher za ear trust 0walks 9 ;");
     }
 
     private static void cannotStand() {
@@ -63,6 +64,11 @@ public final class FilmTest {
         fault(1, "thing a @1 ;");
         fault(1, "thing a@1 ;");
         fault(1, "thing a @: ;");
+        fault(1, "thing @` ;");
+        fault(1, "thing @{ ;");
+        fault(1, "thing a@{ ;");
+        fault(1, "star @/ ;");
+        fault(1, "star @: ;");
         fault(1, "thing a ; @;");
         fault(1, "thing a ; scene @1");
         fault(1, "thing a ; scene@");
@@ -226,6 +232,15 @@ public final class FilmTest {
         Check.due("its star", foot.count(8), 8);
         Check.due("its scenes", foot.count(1), 0);
         Check.due("its watchers", foot.count(2), 0);
+        String whole = "star 2 ; doubts 3 ; thing a ; scene a yes under a no ; watcher w both trust 9 walks 30 ;";
+        for (int time = 1; time <= 3; time++) {
+            Check.due("a film told once more", Check.film(foot, whole), 0);
+            Check.due("a fault amid another one", Check.film(foot, "star 3 ; doubts 5 ; thing b ; thing a ; ?"), 1 + 16 * 40);
+        }
+        Check.due("its scene", foot.count(1), 1);
+        Check.due("its law", foot.show() + 10 * foot.count(7), 30);
+        Check.due("a film without law", Check.film(foot, whole.replace("doubts 3 ;", "")), 0);
+        Check.due("its plain law", foot.show() + 10 * foot.count(7), 20);
         Check.due("a film of nothing", foot.film(), 0);
         Check.due("its things", foot.count(0), 0);
     }
