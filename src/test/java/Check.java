@@ -2,15 +2,21 @@
 final class Check {
     private static int wrong = 0;
     private static int made = 0;
+    private static String sentence = "";
 
     private Check() {
+    }
+
+    /** The words of the document that the next answers are held against; they are printed with an answer that is not due. */
+    static void sentence(String words) {
+        sentence = "\"" + words + "\": ";
     }
 
     static void due(String call, long got, long want) {
         made++;
         if (got != want) {
             wrong++;
-            System.out.println(call + " answered " + got + ", due is " + want);
+            System.out.println(sentence + call + " answered " + got + ", due is " + want);
         }
     }
 
@@ -54,6 +60,16 @@ final class Check {
     /** The FAULT of a kind at the sign @ of a text, which is not read itself. */
     static int faultAt(String text, int kind) {
         return kind + 16 * text.indexOf('@');
+    }
+
+    /** A text with an @ at the token that is wrong, read as a FILM by a new object. */
+    static void filmFault(int kind, String text) {
+        due("film() of " + text, film(new FilmFoot(), text.replace("@", "")), faultAt(text, kind));
+    }
+
+    /** A text with an @ at the token that is wrong, read as an EVENING of this FILM. */
+    static void eveningFault(String film, int kind, String text) {
+        due("evening() of " + text, evening(foot(film), text.replace("@", "")), faultAt(text, kind));
     }
 
     static void end() {
