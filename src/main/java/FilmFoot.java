@@ -1632,7 +1632,7 @@ public final class FilmFoot {
         }
 
         /** An E that stands within so many of not and ( ). */
-        void readAll(Tape tape, int within) {
+        private void readAll(Tape tape, int within) {
             readTest(tape, within);
             for (int tests = 0; tests < MOST_SIGNS && (tape.isWord(Word.AND) || tape.isWord(Word.OR)); tests++) {
                 int deed = tape.isWord(Word.AND) ? AND : OR;
